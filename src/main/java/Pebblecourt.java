@@ -274,7 +274,7 @@ public final class Pebblecourt {
         needRange(rounds, 0, 2);
         needThing(inFirst ? positionFirst : positionSecond, thing);
         layPosition();
-        int found = game.isEven() ? game.replyTo(inFirst, thing, rounds) : -1;
+        int found = game.lowestReply(inFirst, thing, rounds);
         if (found < 0) {
             throw new UnsupportedOperationException("nothing to answer");
         }
@@ -619,7 +619,7 @@ public final class Pebblecourt {
 
     private boolean isOfNewType(int thing, int leaders, int rank) {
         for (int leader = 0; leader < thing; leader++) {
-            if (World.has(leaders, leader) && game.isAnswered(leader, thing, rank)) {
+            if (World.has(leaders, leader) && game.isSameType(leader, thing, rank)) {
                 return false;
             }
         }
@@ -1427,6 +1427,16 @@ public final class Pebblecourt {
             return isEven() && isSurvived(rounds);
         }
 
+        // Two things of a game without pairs.
+        boolean isSameType(int one, int other, int rounds) {
+            return isAnswered(one, other, rounds);
+        }
+
+        // -1 if there is none.
+        int lowestReply(boolean inFirst, int thing, int rounds) {
+            return isEven() ? replyTo(inFirst, thing, rounds) : -1;
+        }
+
         private boolean isSurvived(int rounds) {
             if (rounds <= 0) {
                 return true;
@@ -1462,8 +1472,8 @@ public final class Pebblecourt {
             return answered == second.allThings();
         }
 
-        // The lowest answer that lasts, for a position that is alike; -1 if there is none.
-        int replyTo(boolean inFirst, int thing, int rounds) {
+        // For a position that is alike.
+        private int replyTo(boolean inFirst, int thing, int rounds) {
             int things = inFirst ? second.things : first.things;
             for (int other = 0; other < things; other++) {
                 if (isAnswered(inFirst ? thing : other, inFirst ? other : thing, rounds)) {
@@ -1473,7 +1483,7 @@ public final class Pebblecourt {
             return -1;
         }
 
-        boolean isAnswered(int a, int b, int rounds) {
+        private boolean isAnswered(int a, int b, int rounds) {
             if (!World.has(roomOf(a), b)) {
                 return false;
             }
@@ -1648,8 +1658,8 @@ public final class Pebblecourt {
     private static final class Teller {
         private static final int MOST_TOLD = 600;
         private static final int MOST_OPEN = 40;
-        // Three rows in the making, each below 600 signs, with a part behind them, fit well.
-        private final char[] text = new char[4096];
+        // Three rows in the making, each of at most 600 signs, with a part behind them, fit well.
+        private final char[] text = new char[2048];
         private final int[][] rows = new int[4][MOST_THINGS + 2];
         private final int[] ends = new int[MOST_TOLD];
         private final int[] depths = new int[MOST_TOLD];
