@@ -1039,8 +1039,8 @@ public final class Pebblecourt {
         private final int[] ahead = new int[MOST_THINGS];
         private long[] table = new long[MOST_SIGNS];
         private int slot = 1;
-        private World world;
-        private Formula formula;
+        private World world = new World();
+        private Formula formula = new Formula(new char[0], 0);
         private int set;
         private long valid;
 
@@ -1438,7 +1438,7 @@ public final class Pebblecourt {
         }
 
         private boolean isSurvived(int rounds) {
-            if (rounds <= 0) {
+            if (rounds <= 0 || laid >= MOST_LAID) {
                 return true;
             }
             if (rounds == 1) {
@@ -1904,7 +1904,8 @@ public final class Pebblecourt {
         private final int[] balance = new int[MOST_ITEMS];
         private final long[] views = new long[MOST_ITEMS * WIDE];
         private final int[] codes = new int[MOST_THINGS];
-        private World first;
+        private World first = new World();
+        // Null for a world by itself.
         private World second;
         private boolean arePairs;
         private int split;

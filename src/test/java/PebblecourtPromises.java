@@ -489,13 +489,24 @@ public final class PebblecourtPromises {
         holds("6:01,12,23,34,45", "#x#y#z#u#v#w&Exy&Eyz&Ezu&EuvEvw", 0, 0, true);
         holds("6:01,12,23,34,54", "#x#y#z#u#v#w&Exy&Eyz&Ezu&EuvEvw", 0, 0, false);
         int a = world(p, w);
+        int six = formula(p, "&=xy&Ezu&FvwQv");
+        int[] things = {2, 2, 0, 1, 2, 0};
+        for (int name = 0; name < 6; name++) {
+            p.let(name, things[name]);
+        }
+        is("holds of six names", p.holds(a, six), true);
+        for (int name = 0; name < 6; name++) {
+            p.let(name, (things[name] + 1) % 3);
+            is("holds of six names, another " + name, p.holds(a, six), false);
+            p.let(name, things[name]);
+        }
         int free = formula(p, "Pw");
         int closed = formula(p, "#wPw");
         p.let(5, 3);
         refused("holds of a thing that there is not", CANNOT, () -> p.holds(a, free));
         is("holds of no such name", p.holds(a, closed), true);
         refused("holds(1,0)", INDEX, () -> p.holds(1, free));
-        refused("holds(0,2)", INDEX, () -> p.holds(a, 2));
+        refused("holds(0,3)", INDEX, () -> p.holds(a, 3));
         refused("holds(-1,-1)", INDEX, () -> p.holds(-1, -1));
         p.let(5, 1);
         is("holds", p.holds(a, free), true);
@@ -696,6 +707,13 @@ public final class PebblecourtPromises {
         pebbles("1:F00", "1:", 1, false, false);
         pebbles("1:Q0", "1:P0", 1, false, false);
         pebbles(ORDER_THREE, ORDER_FOUR, 2, false, false);
+        pebbles("5:01,12,23,34", "6:01,12,23,34,45", 2, false, false);
+        pebbles("5:10,21,32,43", "6:10,21,32,43,54", 2, false, false);
+        pebbles("3:20", "4:21", 2, false, false);
+        pebbles("4:01,10", "6:12,13,21,31", 2, false, false);
+        pebbles("6:01,12,34,45", "6:01,12,23,45", 2, false, false);
+        pebbles("6:01,12,34,45", "6:12,20,45,53", 2, true, true);
+        pebbles("6:01,12,20,34,45,53", "6:01,12,23,34,45,50", 2, true, true);
         pebbles("6:00,11,22,33,44,55", "6:00,11,22,33,44,55", 2, true, true);
         Pebblecourt p = new Pebblecourt();
         int a = world(p, "2:");
@@ -819,12 +837,15 @@ public final class PebblecourtPromises {
         refused("telling of what is like by now", CANNOT, () -> p.telling(1));
     }
 
-    // Lengths that PebblecourtAgainstPlain's plain court tells; the last two have more than 600 signs.
+    // Lengths that PebblecourtAgainstPlain's plain court tells; the last ones have 601, 679 and 679 signs.
     private static void longTellings() {
         promise = "promises 30 and 31, long ones";
         tellsSoMany("5:01,12,23,34,40", "6:01,12,23,34,45,50", 276);
         tellsSoMany("6:01,12,23,34,45,50", "5:01,12,23,34,40", 271);
         tellsSoMany("5:04,F13,14,F14,F23,24,F24,30,31,F31,34,F34,F41,F42,F43", "6:04,12,23,31,34,45,50", 595);
+        tellsSoMany("5:01,02,03,F03,04,10,12,13,14,20,F20,21,F21,23,F23,24,30,31,F31,F32,34,40,41,42,43",
+                "6:01,02,F02,03,04,05,10,F10,12,13,14,15,20,21,F21,23,24,25,30,31,32,34,35,F35,40,41,42,43,F43,45,"
+                + "50,51,52,53,54,F54", -1);
         tellsSoMany("5:04,F13,14,F14,23,F23,F24,30,31,F31,32,F34,41,F41,42,F42,43,F43", "6:04,12,23,31,45,50", -1);
         tellsSoMany("5:02,23,F23,24,30,32,34", "6:04,12,23,31,45,50", -1);
     }
