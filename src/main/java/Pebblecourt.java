@@ -696,6 +696,15 @@ public final class Pebblecourt {
             return (set >>> thing & 1) != 0;
         }
 
+        static int lowestOf(int set) {
+            for (int thing = 0; thing < ROOM; thing++) {
+                if (has(set, thing)) {
+                    return thing;
+                }
+            }
+            return 0;
+        }
+
         void begin(int count) {
             things = Math.max(1, Math.min(count, ROOM));
             markedP = 0;
@@ -1067,8 +1076,9 @@ public final class Pebblecourt {
                 next += isThere ? 1 : 0;
             }
             slot = next <= 2 ? 1 : 1 << 3 * (next - 2);
-            if (table.length < slot * MOST_SIGNS) {
-                table = new long[slot * MOST_SIGNS];
+            int needed = slot * MOST_SIGNS;
+            if (needed > table.length) {
+                table = new long[needed];
             }
             for (int at = 0; at < formula.length; at++) {
                 masks[at] = digitsOf(formula.frees[at]);
@@ -1528,7 +1538,7 @@ public final class Pebblecourt {
             if (things == 0 || laid >= MOST_THINGS) {
                 return things == 0 && otherThings == 0;
             }
-            int a = Integer.numberOfTrailingZeros(things);
+            int a = World.lowestOf(things);
             int room = roomOf(a) & otherThings;
             for (int b = 0; b < second.things; b++) {
                 if (World.has(room, b)) {
@@ -1745,7 +1755,7 @@ public final class Pebblecourt {
             return true;
         }
 
-        // The parts stand side by side; the last is moved first, so that none is written over.
+        // The parts stand side by side; the last sign is moved first, so that none is written over.
         private int weave(int at, int[] starts, int parts, int prefix) {
             int end = parts > 0 ? starts[parts] : at;
             if (at < 0 || end + prefix + parts > text.length) {
@@ -1754,7 +1764,9 @@ public final class Pebblecourt {
             for (int part = parts - 1; part >= 0; part--) {
                 int from = starts[part];
                 int to = from + prefix + Math.min(part + 1, parts - 1);
-                System.arraycopy(text, from, text, to, starts[part + 1] - from);
+                for (int i = starts[part + 1] - from - 1; i >= 0; i--) {
+                    text[to + i] = text[from + i];
+                }
                 if (part < parts - 1) {
                     text[to - 1] = '&';
                 }
