@@ -19,7 +19,7 @@ public final class PebblecourtAgainstPlain {
     private static long seed;
 
     public static void main(String[] args) {
-        int runs = args.length > 0 ? Integer.parseInt(args[0]) : 400;
+        int runs = args.length > 0 ? Integer.parseInt(args[0]) : 800;
         int first = args.length > 1 ? Integer.parseInt(args[1]) : 0;
         for (int run = first; run < first + runs && wrong < 20; run++) {
             oneRun(run);

@@ -205,7 +205,7 @@ public final class PebblecourtEdges {
         List<String> all = new ArrayList<>();
         for (String row : rows) {
             int star = row.indexOf("* ");
-            boolean isTimes = star > 0 && Character.isDigit(row.charAt(star - 1)) && star < 3;
+            boolean isTimes = star > 0 && Character.isDigit(row.charAt(star - 1)) && star <= 3;
             String once = isTimes ? row.substring(star + 2) : row;
             int times = isTimes ? Integer.parseInt(row.substring(0, star)) : 1;
             for (int i = 0; i < times; i++) {
@@ -673,7 +673,8 @@ public final class PebblecourtEdges {
         edge("promise 22: if there is no such world, for either", "position 0 0 -> " + INDEX, "draw 2:01", "draw 2:10",
                 "position ?0..1 0 -> " + INDEX, "position 0 ?0..1 -> " + INDEX, "position 0 1 -> 0",
                 "pair 0 0 -> 1", "pair 1 1 -> 2", "position ?0..1 0 -> " + INDEX, "position 0 ?0..1 -> " + INDEX,
-                "position 2 2 -> " + INDEX, "isAlike -> false", "position 1 1 -> 2");
+                "position 1 ?0..1 -> " + INDEX, "position ?0..1 1 -> " + INDEX, "position 2 2 -> " + INDEX,
+                "isAlike -> false", "position 1 1 -> 2");
         edge("promise 23: if no position was begun", "world 2", "pair 0 0 -> " + NONE, "pair ?0..1 0 -> " + NONE,
                 "pair 0 ?0..1 -> " + NONE);
         edge("promise 23: if there is no such thing, for either", "world 2", "world 3", "position 0 1",
@@ -713,6 +714,11 @@ public final class PebblecourtEdges {
                 "answers 3 -> false", "position 0 0", "6* pair 0 0", "answers 3 -> true");
         edge("promise 25: a spoiler who wins by the seventh pair", "draw 2:P1", "world 2", "position 0 1",
                 "6* pair 0 0", "answers 0 -> true", "answers 1 -> false");
+        // Where a thing is both led to and leads on, it alone spoils: the first or the last thing of a world.
+        edge("promise 25: the one who spoils wins by one thing alone", "draw 4:01,23", "draw 3:10,02", "draw 3:02,21",
+                "position 0 1", "answers 1 -> true", "answers 2 -> false", "position 1 0", "answers 1 -> true",
+                "answers 2 -> false", "position 0 2", "answers 1 -> true", "answers 2 -> false", "position 2 0",
+                "answers 1 -> true", "answers 2 -> false", "answers 3 -> false");
         edge("promise 26: if no position was begun", "world 1", "answer true 0 0 -> " + NONE,
                 "answer false ?0..0 0 -> " + NONE, "answer true 0 ?0..2 -> " + NONE);
         edge("promise 26: rounds, 0 to 2", "world 2", "world 2", "position 0 1", "answer true 0 ?0..2 -> " + RANGE,
@@ -746,6 +752,11 @@ public final class PebblecourtEdges {
         edge("promise 27: without as many things in both there is none", "world 1", "world 2", "world 6",
                 "pebbles 0 1 1 false -> true", "pebbles 0 1 1 true -> false", "pebbles 1 0 1 true -> false",
                 "pebbles 1 2 2 false -> true", "pebbles 1 2 2 true -> false", "pebbles 2 2 2 true -> true");
+        // The first of the second world leads to P alone, as nothing does in the first one.
+        edge("promise 27: the one who spoils wins by the first thing alone", "draw 6:01,02,34,35,P1,P4,Q2,Q5",
+                "draw 5:01,23,24,P1,P3,Q4", "draw 5:21,20,43,P1,P3,Q0", "pebbles 0 1 1 false -> true",
+                "pebbles 0 1 2 false -> false", "pebbles 1 0 2 false -> false", "pebbles 0 2 2 false -> false",
+                "pebbles 2 0 2 false -> false", "pebbles 1 2 2 false -> true", "pebbles 1 2 2 true -> true");
         edge("promise 27: of 1 thing each", "draw 1:", "draw 1:00", "draw 1:00", "pebbles 0 1 1 false -> false",
                 "pebbles 0 1 2 false -> false", "pebbles 1 2 1 false -> true", "pebbles 1 2 2 true -> true");
         edge("promise 28: rank, 0 to 2", "draw 3:01,12", "types 0 ?0..2 -> " + RANGE, "types 0 0 -> 1",
@@ -914,8 +925,11 @@ public final class PebblecourtEdges {
                 "chance 0 ?1..3 -> " + RANGE, "chance 0 1 -> 2", "chance 0 2 -> 16", "chance 0 3 -> 512",
                 "chance 1 1 -> 0", "chance 1 3 -> 0", "chance 2 1 -> 1", "chance 2 3 -> 448", "chance 3 1 -> 1",
                 "chance 3 2 -> 1", "chance 3 3 -> 1", "worlds -> 0");
-        edge("promise 42: without threads and marks", "draw 3:F00,F01,P0,Q1", "say #x#yFxy", "say #xPx", "say #xQx",
-                "say #xXx", "chance 0 3 -> 0", "chance 1 3 -> 0", "chance 2 3 -> 0", "chance 3 3 -> 0");
+        edge("promise 42: without threads and marks", "draw 3:F00,F01,P0,Q0", "say #x#yFxy", "say #xPx", "say #xQx",
+                "say #xXx", "chance 0 3 -> 0", "chance 1 3 -> 0", "chance 2 3 -> 0", "chance 3 3 -> 0",
+                "operations 0", "chance 0 3 -> 0", "chance 1 3 -> 0", "chance 2 3 -> 0", "chance 3 3 -> 0",
+                "turned 0", "operations 1", "chance 0 1 -> 0", "chance 1 2 -> 0", "chance 2 1 -> 0",
+                "someSet 0 3 -> 1", "chance 3 1 -> 0");
         edge("promise 42: the exception listed first", "say Px", "chance 1 0 -> " + INDEX, "chance -1 4 -> " + INDEX,
                 "chance 0 0 -> " + RANGE, "chance 0 4 -> " + RANGE, "chance 0 1 -> " + CANNOT,
                 "chance 0 3 -> " + CANNOT);
@@ -969,6 +983,11 @@ public final class PebblecourtEdges {
     }
 
     private static void whatIsThereWhereNothingIsTold() {
+        edge("an object is used for at most 512 calls", "10* world 6", "draw 6:01,12,23,34,45,50", "draw 6:05",
+                "say #x#y#z#u#v#w&Exy&Eyz&Ezu&EuvEvw", "say &=xx&=yy&=zz&=uu&=vv=ww", "position 10 11",
+                "100* ways 0 1 -> 46656", "100* truth 0 -> 0.083333336", "100* orders 10 0 -> 720",
+                "83* someSet 10 0 -> 0", "50* answers 3 -> false", "type P -> 1", "worlds -> 12",
+                "isSound -> true");
         edge("the set X is empty, where no other one is told", "draw 3:01", "say Xx", "say #xXx", "say @x!Xx",
                 "ways 0 0 -> 0", "holds 0 0 -> false", "holds 0 1 -> false", "holds 0 2 -> true",
                 "someSet 0 1 -> 1", "holds 0 1 -> false", "ways 0 0 -> 0", "say |=xxXx", "fixed 0 3 0 l -> 7",

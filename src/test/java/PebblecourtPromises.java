@@ -901,6 +901,10 @@ public final class PebblecourtPromises {
         colours("4:P0", true, 5);
         colours("6:01,12,23,34,45", false, 6);
         colours("6:01,12,23,34,45", true, 36);
+        colours("6:10,22,33,44", true, 17);
+        colours("6:03,30,55", true, 11);
+        colours("4:02,20,33", true, 10);
+        colours("4:01,12,20,F20", true, 16);
         Pebblecourt p = new Pebblecourt();
         int a = world(p, "2:");
         refused("colours(1)", INDEX, () -> p.colours(1, false));
@@ -917,6 +921,8 @@ public final class PebblecourtPromises {
         alike("2:F01", "2:01", false, false);
         alike("3:P0,P1", "3:P0", false, false);
         alike("4:01,10,23,32", "4:01,12,23,30", true, false);
+        alike("6:03,30,55", "6:12,21,00", true, true);
+        alike("6:03,30,55", "6:12,21,00,33", false, false);
         is("a world and itself", p.areAlike(a, a, true), true);
         refused("areAlike(0,1)", INDEX, () -> p.areAlike(a, 1, false));
         refused("areAlike(1,0)", INDEX, () -> p.areAlike(1, a, true));
